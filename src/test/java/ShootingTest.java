@@ -16,6 +16,7 @@ public final class ShootingTest {
         mend();
         close();
         horn();
+        sixOfEach();
         Check.end();
     }
 
@@ -279,5 +280,27 @@ public final class ShootingTest {
             Check.due("horn()", blown, x.horn());
             Check.due("many(11)", blown, x.many(11));
         }
+    }
+
+    private static void sixOfEach() {
+        ArrowField x = Fields.slow(6, 8);
+        for (int archer = 0; archer < 6; archer++) {
+            x.tune(archer, 2 + archer, 0);
+            Check.due("shoot(" + archer + ", 0)", true, x.shoot(archer, 0) > 0);
+        }
+        Check.due("many(5)", 6, x.many(5));
+        Check.due("best(5)", 5, x.best(5));
+        Check.due("shoot(5, 1)", true, x.shoot(5, 1) > 0);
+        Check.due("set of broken ones of quiver 5", 1, x.ofQuiver(5, 6));
+        Check.due("END shots of 5", 2, x.ofArcher(5, 9));
+        Check.due("pull()", 6, x.pull());
+        Check.due("END shots of 5 behind the pull", 0, x.ofArcher(5, 9));
+        Check.due("mend(5)", 1, x.mend(5));
+        Check.due("give(5, 0)", 0, x.give(5, 0));
+        Check.due("who has quiver 5", -1, x.ofQuiver(5, 2));
+        Check.dueIndex("ofArcher(6, 0)", x, () -> x.ofArcher(6, 0));
+        Check.dueIndex("ofQuiver(6, 0)", x, () -> x.ofQuiver(6, 0));
+        Check.dueIndex("give(6, 0)", x, () -> x.give(6, 0));
+        Check.dueIndex("give(0, 6)", x, () -> x.give(0, 6));
     }
 }

@@ -10,6 +10,7 @@ public final class WouldBeTest {
         bestOfTheSame();
         reach();
         reachOfAFastBow();
+        reachAtTheEdges();
         wouldScore();
         nothingIsChanged();
         Check.end();
@@ -163,6 +164,26 @@ public final class WouldBeTest {
             y.field(distance, 0, 4);
             Check.due("V from " + distance + " is less", true, y.wouldHit(0, 127, true) < 0.0);
         }
+    }
+
+    /** SPEED 32 and NOCK 4 give V just 0.0 behind 28 TICKS, which lead from 51.4 to 53.1. */
+    private static void reachAtTheEdges() {
+        ArrowField x = new ArrowField();
+        x.archer(32, 9);
+        x.quiver(400, 852);
+        x.give(0, 0);
+        x.tune(0, 0, 4);
+        x.field(53, 0, 4);
+        Check.due("V from 53 by 127", 0.0, x.wouldHit(0, 127, true));
+        Check.due("reach(0) with V just 0.0", 53, x.reach(0));
+        ArrowField y = new ArrowField();
+        y.archer(20, 9);
+        y.quiver(600, 1020);
+        y.give(0, 0);
+        y.tune(0, 0, -3);
+        Check.due("reach(0) of 10", 10, y.reach(0));
+        y.tune(0, 0, -5);
+        Check.due("reach(0) of none", -1, y.reach(0));
     }
 
     private static void wouldScore() {
