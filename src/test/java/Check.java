@@ -1,3 +1,5 @@
+import java.util.function.IntConsumer;
+
 /** What the tests share: it compares answers with those that are due, and counts. */
 final class Check {
     private static int right;
@@ -45,6 +47,24 @@ final class Check {
 
     static void dueState(String call, ArrowField field, Call made) {
         dueThrow(call, IllegalStateException.class, field, made);
+    }
+
+    /** The call throws IllegalArgumentException for what is less than the least or more than the most. */
+    static void dueArgumentBeside(String call, ArrowField field, int least, int most, IntConsumer made) {
+        for (int value : beside(least, most)) {
+            dueArgument(call + " of " + value, field, () -> made.accept(value));
+        }
+    }
+
+    /** The call throws IndexOutOfBoundsException for what is not one of so many numbers from 0 on. */
+    static void dueIndexBeside(String call, ArrowField field, int many, IntConsumer made) {
+        for (int value : beside(0, many - 1)) {
+            dueIndex(call + " of " + value, field, () -> made.accept(value));
+        }
+    }
+
+    private static int[] beside(int least, int most) {
+        return new int[] {least - 1, most + 1, Integer.MIN_VALUE, Integer.MAX_VALUE};
     }
 
     /** Ends the program; with exit code 1 if an answer was wrong. */

@@ -3,6 +3,7 @@ public final class DigestTest {
     public static void main(String[] args) {
         newObject();
         busyField();
+        fullField();
         Check.end();
     }
 
@@ -25,6 +26,21 @@ public final class DigestTest {
             x.close(true);
             Check.due("digest() closed, behind " + shots + " shots", reckoned(x), x.digest());
         }
+    }
+
+    /** 6 ARCHERS and 6 QUIVERS, each with an ARROW that was SHOT. */
+    private static void fullField() {
+        ArrowField x = new ArrowField();
+        for (int i = 0; i < 6; i++) {
+            x.archer(30 + 5 * i, i);
+            x.quiver(600 - 70 * i, 860 - 61 * i);
+            x.give(i, i);
+            x.tune(i, 40 - 6 * i, i - 3);
+        }
+        for (int i = 0; i < 6; i++) {
+            x.shoot(i, 11 - i);
+        }
+        Check.due("digest() of a full field", reckoned(x), x.digest());
     }
 
     private static ArrowField busyBehind(int shots) {

@@ -46,4 +46,32 @@ final class Fields {
         field.field(10, 0, face);
         return field;
     }
+
+    /** An ARCHER without SHAKE who shoots straight ahead (H is 0.0 without WIND), by SIGHT 0, from there. */
+    static ArrowField straight(int draw, int mass, int nock, int distance) {
+        ArrowField field = new ArrowField();
+        field.archer(draw, NO_SHAKE);
+        field.quiver(mass, straightSpine(draw));
+        field.give(0, 0);
+        field.tune(0, 0, nock);
+        field.field(distance, 0, 8);
+        return field;
+    }
+
+    static int straightSpine(int draw) {
+        return 1300 - 14 * draw;
+    }
+
+    /** V behind so many TICKS by SIGHT 0; all of it is exact. */
+    static double fallen(int nock, int ticks) {
+        return nock * ticks / 128.0 - 0.625 * ticks * (ticks - 1) / 32.0;
+    }
+
+    /** So many SHOTS to nobody's harm: the ARROW is pulled each time. */
+    static void wearString(ArrowField field, int archer, int shots) {
+        for (int shot = 0; shot < shots; shot++) {
+            field.shoot(archer, 0);
+            field.pull();
+        }
+    }
 }

